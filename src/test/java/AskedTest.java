@@ -136,6 +136,10 @@ public final class AskedTest {
         for (int what = 0; what < 8; what++) {
             C.due("count " + what, x.count(what), due[what]);
         }
+        x.town();
+        Check.tell(x, "l0,1;c1,1;s1,0,0;");
+        C.due("fed of the children there are", x.count(4), 1);
+        C.due("spoilt of the children there are", x.count(5), 1);
         C.due("8", x.count(8), BAD);
         C.due("-1", x.count(-1), BAD);
     }

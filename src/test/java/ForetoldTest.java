@@ -235,6 +235,10 @@ public final class ForetoldTest {
         LentGrannies y = Check.townOf("l0,1;c60,0;c0,0;s1,1,0;o9,1,0;o9,0,0;o9,0,0;");
         C.due("as much at 99: one more alone", y.swaps(3, 0), 2);
         C.due("the first one, 02", y.swaps(3, 1), 2);
+        LentGrannies z = Check.townOf("l0,1;c10,0;c10,0;n1,0,0;s3,0,0;s9,0,0;n1,0,0;s1,1,0;");
+        z.quarrel(1, 2, 1);
+        C.due("10 times the lesser", z.swaps(1, 1), 14);
+        C.due("14 and 24", z.swaps(1, 0), 2);
     }
 
     private static void soon() {
@@ -366,6 +370,9 @@ public final class ForetoldTest {
         }
         x.days(1);
         C.due("as if told", x.count(4), fed);
+        LentGrannies y = Check.townOf("l0,1;c0,5;n1,0,0;");
+        C.due("the only one is sick", y.drawn(1, 4, 1), 5);
+        C.due("sick for 0 days by 67228 times 5", y.drawn(1, 20, 1), 4);
         C.due("-1", x.drawn(-1, 1, 0), BAD);
         C.due("61", x.drawn(61, 1, 0), BAD);
         C.due("seed 0", x.drawn(1, 0, 0), BAD);
