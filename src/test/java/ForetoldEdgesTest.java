@@ -7,6 +7,8 @@ public final class ForetoldEdgesTest {
     private static final Script ONE = new Script(C, "tell l0,1;c0,0;s1,0,0; = 1");
     private static final Script TWO = new Script(C, "tell l0,1;c0,0;c0,0;c0,0;s1,0,0;s1,0,0; = 2");
     private static final Script SIX = new Script(C, "tell l0,1;c0,0;s1,0,0;s1,0,0;s1,0,0;s1,0,0;s1,0,0;s1,0,0; = 6");
+    private static final Script MOST = new Script(C,
+        "tell l0,1;c0,0;c0,0;c0,0;c0,0;c0,0;s1,0,0;s1,0,0;s1,0,0;s1,0,0;s1,0,0;t1,0,0; = 6");
     private static final Script FIVE = new Script(C, "tell l0,1;c0,0;c0,0;c0,0;c0,0;c0,0;s1,0,1;s1,0,0; = 2");
 
     public static void main(String[] args) {
@@ -166,6 +168,13 @@ public final class ForetoldEdgesTest {
             "rota(2, 1, 1) = 1", "rota(6, 1, -1) = 2", "rota(6, 1, 0) = 1", "rota(6, 1, 1) = 2");
         TWO.run("Promise 23, rota: the fewest, though another way comes first", "swap(0, 2) = 0", "swap(1, 1) = 0",
             "rota(6, 1, -1) = 0", "rota(6, 1, 0) = 2", "rota(6, 1, 1) = 1");
+        TWO.run("Promise 23, rota: the first is sick, the others serve", "sick(0, 1) = 0", "rota(2, 1, -1) = 1",
+            "rota(2, 1, 0) = 0", "rota(2, 1, 1) = 1", "rota(6, 1, -1) = NONE");
+        MOST.run("Promise 23, rota: six, five CHILDREN", "rota(31, 1, -1) = 4", "rota(31, 1, 0) = 0",
+            "rota(31, 1, 1) = 0", "rota(31, 1, 2) = 1", "rota(31, 1, 3) = 2", "rota(31, 1, 4) = 3",
+            "rota(31, 1, 5) = 4", "sick(0, 1) = 0", "rota(31, 1, -1) = 4", "rota(31, 1, 0) = 0", "rota(31, 1, 1) = 0",
+            "rota(31, 1, 5) = 4", "sick(1, 1) = 0", "rota(31, 1, -1) = NONE", "rota(31, 1, 5) = NONE",
+            "rota(31, 2, -1) = 4");
         TWO.run("Promise 23, rota: LOST ones do not serve", "quarrel(0, 1, 1) = 2", "rota(1, 1, -1) = 1",
             "rota(1, 1, 0) = 0", "rota(1, 1, 1) = 1", "swap(1, 1) = 0", "rota(1, 1, -1) = 0");
         SIX.run("Promise 23, rota: NONE, if all are LOST", "quarrel(0, 1, 1) = 2", "quarrel(2, 3, 1) = 8",
@@ -235,6 +244,9 @@ public final class ForetoldEdgesTest {
         new Script(C, "tell l0,1;c0,0;c60,0;o9,1,0;o9,1,0;s9,1,0;s3,0,0; = 4").run(
             "Promise 26, swaps: one more, the other at 99 both ways", "swaps(1, 0) = 1", "swaps(1, 1) = 23",
             "swaps(2, 0) = 3", "swaps(2, 1) = 3");
+        new Script(C, "tell l0,1;c0,0;c0,0;c0,0;c0,0;c60,0;o9,4,0;o9,4,0;o9,4,0;s1,3,0;s1,3,0;s1,3,0; = 6").run(
+            "Promise 26, swaps: six, five CHILDREN", "swaps(1, 0) = 0", "swaps(2, 0) = 9", "swaps(2, 1) = 3",
+            "swaps(32, 0) = 9", "swaps(33, 0) = 0");
         new Script(C, "tell l0,1;c0,0;c0,0;s5,0,0;s4,1,0; = 2").run("Promise 26, swaps: in n DAYS, sick ones of them",
             "sick(0, 1) = 0", "sick(1, 1) = 0", "swaps(1, 0) = 0", "swaps(1, 1) = NONE");
     }
@@ -254,6 +266,11 @@ public final class ForetoldEdgesTest {
         new Script(C, "tell l0,1;c0,0;c0,0;t1,0,0;t1,0,0; = 2").run("Promise 27, soon: of several tellers the first",
             "soon(1, 0) = 0", "soon(1, 1) = 1", "sick(0, 1) = 0", "soon(1, 0) = 1", "soon(1, 1) = 1", "sick(1, 1) = 0",
             "soon(1, 0) = 0", "soon(1, 1) = 2");
+        new Script(C, "tell l0,1;c0,0;c0,0;c0,0;t1,2,1; = 1", "sick(0, 1) = 0").run(
+            "Promise 27, soon: were her FIRST it, though as it is would be sooner", "whole(0) = 2", "soon(0, 0) = 0",
+            "soon(0, 1) = 4");
+        MOST.run("Promise 27, soon: the last of six, the last of five CHILDREN", "soon(4, 0) = 5", "soon(4, 1) = 1",
+            "soon(0, 0) = 0", "soon(0, 1) = 1", "sick(5, 60) = 0", "soon(4, 0) = NONE", "soon(5, 0) = BAD");
         ONE.run("Promise 27, soon: NONE: nobody tells", "soon(0, 0) = NONE", "soon(0, 1) = NONE");
         NEW.run("Promise 27, soon: BAD without a TOWN", "soon(0, 0) = BAD");
     }
