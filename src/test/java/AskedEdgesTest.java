@@ -36,6 +36,9 @@ public final class AskedEdgesTest {
             "undo() = 2", "count(3) = 2");
         TOWN.run("Promise 34, image: in place of the one that was kept", "image(0) = 1", "days(1) = 1", "image(0) = 1",
             "days(1) = 2", "restore(0) = 1", "count(3) = 1", "child(0, 0) = 12");
+        TOWN.run("Promise 34, image: one kept leaves the other", "days(1) = 1", "image(0) = 1", "days(1) = 2",
+            "image(1) = 1", "days(1) = 3", "restore(0) = 1", "count(3) = 1", "restore(1) = 1", "count(3) = 2",
+            "image(0) = 1", "restore(1) = 1", "count(3) = 2");
         TOWN.run("Promise 34, image: each by itself", "image(0) = 1", "days(1) = 1", "image(1) = 1", "days(1) = 2",
             "restore(0) = 1", "count(3) = 0", "restore(1) = 1", "count(3) = 1", "restore(0) = 1", "count(3) = 0");
     }

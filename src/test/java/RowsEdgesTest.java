@@ -12,6 +12,7 @@ public final class RowsEdgesTest {
         copyEnds();
         copyItems();
         drop();
+        apart();
         status();
         C.end();
     }
@@ -169,6 +170,14 @@ public final class RowsEdgesTest {
             "set(4, 1, 70000) = 70000", "set(4, 2, 0) = PLACE", "count(0) = 1");
         NEW.run("Promise 5, drop: the others stay", "row(3, 0, 2) = 2", "row(4, 0, 3) = 3", "row(5, 0, 4) = 4",
             "drop(4) = 3", "count(0) = 2", "set(3, 1, 1) = 1", "set(5, 3, 1) = 1", "set(4, 0, 1) = NULL");
+    }
+
+    private static void apart() {
+        new Script(C, "tell l0,1;c0,0;s1,0,0; = 1", "days(2) = 2", "image(0) = 1", "ask(0, 1) = 0",
+            "feed(108) = 1").run("Promises 2 to 5: ROWS are no part of a TOWN, nor ACTS", "row(0, 0, 3) = 3",
+            "row(1, 0, 3) = 3", "set(0, 1, 2) = 2", "copy(0, 0, 1, 1, 2) = 2", "drop(0) = 3", "count(6) = 2",
+            "trace(0) = 21", "count(7) = 1", "fault() = 0", "undo() = 1", "count(0) = 1", "child(0, 0) = 1",
+            "restore(0) = 1", "count(0) = 1", "child(0, 0) = 2", "drop(1) = 3");
     }
 
     private static void status() {
