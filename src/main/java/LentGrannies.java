@@ -38,7 +38,7 @@ public final class LentGrannies {
         images = new int[IMAGES][Town.CELLS];
         imageKept = new boolean[IMAGES];
         asker = new Asker();
-        search = new Rota(trial);
+        search = new Rota();
     }
 
     // ---- rows
@@ -280,9 +280,9 @@ public final class LentGrannies {
         if (!within(children, 0, now.allChildren()) || !within(n, 1, ROTA_DAYS) || !within(k, -1, now.grans - 1)) {
             return BAD;
         }
-        openTrial();
-        int changes = search.fewestChanges(children, n);
-        return k < 0 || changes == NONE ? changes : trial.first[k];
+        now.save(page);
+        int changes = search.fewestChanges(page, children, n);
+        return k < 0 || changes == NONE ? changes : search.town.first[k];
     }
 
     public int meets(int gran, int other) {
@@ -1083,19 +1083,16 @@ public final class LentGrannies {
      * first that serves is the one that is asked for. Ways that cannot serve even without quarrels are cut off.
      */
     private static final class Rota {
+        final Town town = new Town();
         private final int[] was = new int[GRANS];
         private final int[] reach = new int[GRANS * CHILDREN];
         private final int[] reachFrom = new int[GRANS + 1];
-        private final Town town;
         private int wanted;
         private int span;
 
-        Rota(Town trial) {
-            town = trial;
-        }
-
         /** The town is left with the way that was found. */
-        int fewestChanges(int children, int n) {
+        int fewestChanges(int[] cells, int children, int n) {
+            town.load(cells);
             wanted = children;
             span = Math.min(n, longestIll() + town.children);
             noteReach();

@@ -32,6 +32,9 @@ final class Script {
         Pattern.compile("(?:(\\d+)\\* )?(?:tell (\\S*)|(\\w+)\\(([^)]*)\\))(?: = (.+))?");
     private static final Map<String, Method> FACE = new HashMap<>();
 
+    /** All that was run so far, "sentence: step" each. */
+    static final List<String> RUN = new ArrayList<>();
+
     static {
         for (Method m : LentGrannies.class.getDeclaredMethods()) {
             FACE.put(m.getName(), m);
@@ -84,6 +87,7 @@ final class Script {
         Counted x = new Counted();
         List<Call> past = new ArrayList<>();
         for (String text : all) {
+            RUN.add(sentence + ": " + text);
             Step step = parse(text);
             long status = new Twin(past).object.ask("status");
             long got = make(x, step.calls);
